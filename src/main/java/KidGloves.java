@@ -10,10 +10,13 @@ public final class KidGloves {
     private static final int DIGITS = 10, TOP_DIGIT = 9;
     private static final int QUARREL_GAP = 4, QUARREL_MOOD = 3, HANDS = 2;
     private static final int MOST_STILL = 8, LEAST_BUTTING = 15;
-    private static final int NO_WISH = 2, NEITHER = 2, BUTTS = 1, SITS_STILL = 0;
+    private static final int SITS_STILL = 0, BUTTS = 1, NEITHER = 2;
+    // The other WISHES are numbered as what a WEARER does: SITS_STILL, BUTTS.
+    private static final int NO_WISH = 2;
     private static final int SETS = 1 << MOST_GLOVES;
-    private static final int MOST_ODDS_HOURS = 8, TENTHS = 10;
-    private static final int DRESS_OR_BOX_OF_FIRST = 10;
+    private static final int MOST_MOOD_HOURS = 40, MOST_ODDS_HOURS = 8, TENTHS = 10, MOST_TEAS = 60;
+    // What can be asked: dress() and boxes() tell of GLOVE 0 by 10, glove() and wearer() go to 8, count() to 12.
+    private static final int ASKS_OF_FIRST = 10, LAST_OF_ONE = 8, LAST_COUNT = 12;
 
     private final Page page = new Page();
     private final Shop now = new Shop();
@@ -102,7 +105,7 @@ public final class KidGloves {
             case 4: return doing(now.moodOf(wearer, 0));
             case 5: return at(now.wishes, wearer);
             case 6: return now.pleases(wearer, now.moodOf(wearer, 0)) ? 1 : 0;
-            case 7: return now.fewestChanges(wearer);
+            case 7: return now.changesTo(wearer, now.stillSet(wearer));
             case 8: return now.stillSet(wearer);
             default: return OUTSIDE;
         }
@@ -178,7 +181,7 @@ public final class KidGloves {
         if (!now.hasWearer(wearer)) {
             return UNKNOWN;
         }
-        if (!within(hours, 0, 40)) {
+        if (!within(hours, 0, MOST_MOOD_HOURS)) {
             return OUTSIDE;
         }
         return now.moodOf(wearer, hours);
@@ -196,7 +199,7 @@ public final class KidGloves {
         switch (what) {
             case 0: return dressing.mostPleased;
             case 1: return dressing.fewestGiven;
-            default: return at(dressing.best, what - DRESS_OR_BOX_OF_FIRST);
+            default: return at(dressing.best, what - ASKS_OF_FIRST);
         }
     }
 
@@ -208,7 +211,7 @@ public final class KidGloves {
             return STATE;
         }
         packing.find(now);
-        return what == 0 ? packing.fewest : at(packing.best, what - DRESS_OR_BOX_OF_FIRST);
+        return what == 0 ? packing.fewest : at(packing.best, what - ASKS_OF_FIRST);
     }
 
     public int odds(int wearer, int hours, int tenths, int what) {
@@ -250,7 +253,7 @@ public final class KidGloves {
     }
 
     public int teas(int times, int seed, int what) {
-        if (!within(times, 1, 60) || seed < 0 || !within(what, 0, 2)) {
+        if (!within(times, 1, MOST_TEAS) || seed < 0 || !within(what, 0, 2)) {
             return OUTSIDE;
         }
         if (!hasShop()) {
@@ -312,7 +315,7 @@ public final class KidGloves {
     public long digest() {
         long h = 1237;
         for (int glove = 0; glove < now.gloves; glove++) {
-            for (int what = 0; what <= 8; what++) {
+            for (int what = 0; what <= LAST_OF_ONE; what++) {
                 h = 31 * h + glove(glove, what);
             }
         }
@@ -325,7 +328,7 @@ public final class KidGloves {
         for (int place = 0; place < page.length; place++) {
             h = 31 * h + at(page.codes, place);
         }
-        for (int what = 0; what <= 12; what++) {
+        for (int what = 0; what <= LAST_COUNT; what++) {
             h = 31 * h + count(what);
         }
         return h;
@@ -333,7 +336,7 @@ public final class KidGloves {
 
     private long digestOfWearer(long before, int wearer) {
         long h = before;
-        for (int what = 0; what <= 8; what++) {
+        for (int what = 0; what <= LAST_OF_ONE; what++) {
             h = 31 * h + wearer(wearer, what);
         }
         h = 31 * h + mood(wearer, 5);
@@ -355,7 +358,7 @@ public final class KidGloves {
     }
 
     private static boolean asksOfGlove(int what) {
-        return within(what, DRESS_OR_BOX_OF_FIRST, DRESS_OR_BOX_OF_FIRST + MOST_GLOVES - 1);
+        return within(what, ASKS_OF_FIRST, ASKS_OF_FIRST + MOST_GLOVES - 1);
     }
 
     private static boolean within(int number, int least, int most) {
@@ -397,6 +400,10 @@ public final class KidGloves {
 
     private static boolean isOfKind(int own, int kind) {
         return kind == GLOVE || own == kind || own == LAMB && kind == KID;
+    }
+
+    private static int ageOf(int hoursOnHand) {
+        return hoursOnHand < MOST_AGE ? hoursOnHand : MOST_AGE;
     }
 
     private static int temperOf(int kind, int mark, int age) {
@@ -587,18 +594,13 @@ public final class KidGloves {
             hours++;
             for (int glove = 0; glove < gloves; glove++) {
                 if (at(holders, glove) != NONE) {
-                    put(ages, glove, ageBehind(glove, 1));
+                    put(ages, glove, ageOf(at(ages, glove) + 1));
                 }
             }
         }
 
-        int ageBehind(int glove, int more) {
-            int age = at(ages, glove) + more;
-            return age < MOST_AGE ? age : MOST_AGE;
-        }
-
         int temper(int glove, int more) {
-            return temperOf(at(kinds, glove), at(marks, glove), ageBehind(glove, more));
+            return temperOf(at(kinds, glove), at(marks, glove), ageOf(at(ages, glove) + more));
         }
 
         int quarrels(int glove) {
@@ -656,9 +658,8 @@ public final class KidGloves {
             return best;
         }
 
-        int fewestChanges(int wearer) {
-            int best = stillSet(wearer);
-            return best == NONE ? NONE : Integer.bitCount(best ^ heldBy(wearer));
+        int changesTo(int wearer, int set) {
+            return set == NONE ? NONE : Integer.bitCount(set ^ heldBy(wearer));
         }
 
         boolean addSeen(int glove, int more, int temper) {
@@ -685,7 +686,7 @@ public final class KidGloves {
         boolean agreesWithSeen(int glove, int mark) {
             int kind = at(kinds, glove);
             for (int sight = 0; sight < seen; sight++) {
-                int age = ageBehind(glove, at(seenMores, sight));
+                int age = ageOf(at(ages, glove) + at(seenMores, sight));
                 if (at(seenGloves, sight) == glove && temperOf(kind, mark, age) != at(seenTempers, sight)) {
                     return false;
                 }
@@ -713,7 +714,7 @@ public final class KidGloves {
         /** How many of these MARKS are left at worst, when the GLOVE is felt at so much more AGE. */
         int mostLeft(int glove, int possible, int more) {
             int kind = at(kinds, glove);
-            int age = ageBehind(glove, more);
+            int age = ageOf(at(ages, glove) + more);
             int most = 0;
             Arrays.fill(leftByTemper, 0);
             for (int mark = 0; mark <= TOP_DIGIT; mark++) {
@@ -793,7 +794,6 @@ public final class KidGloves {
         void find(Shop shop) {
             Arrays.fill(sets, 0);
             Arrays.fill(given, NONE);
-            Arrays.fill(best, NONE);
             mostPleased = NONE;
             fewestGiven = 0;
             judgeSets(shop);
@@ -854,7 +854,6 @@ public final class KidGloves {
         void find(Shop shop) {
             Arrays.fill(inBox, 0);
             Arrays.fill(boxOf, NONE);
-            Arrays.fill(best, NONE);
             fewest = MOST_GLOVES + 1;
             for (int glove = 0; glove < shop.gloves; glove++) {
                 put(quarrels, glove, shop.quarrels(glove));

@@ -136,6 +136,7 @@ public final class AllTest {
     }
 
     private static void digestIsAsTold(KidGloves x) {
+        long unasked = x.digest();
         long h = 1237;
         for (int glove = 0; glove < x.count(0); glove++) {
             for (int what = 0; what <= 8; what++) {
@@ -163,7 +164,7 @@ public final class AllTest {
         for (int what = 0; what <= 12; what++) {
             h = h * 31 + x.count(what);
         }
-        Check.due("digest()", x.digest(), h);
+        Check.due("digest()", unasked, h);
         Check.due("digest() again", x.digest(), h);
     }
 }

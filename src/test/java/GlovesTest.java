@@ -16,6 +16,7 @@ public final class GlovesTest {
         doing();
         wished();
         changes();
+        wearerAsHeIsNow();
         Check.end("GlovesTest");
     }
 
@@ -238,6 +239,25 @@ public final class GlovesTest {
         x.hour();
         x.wish(1, 1, 2);
         changesAre(x, 1, 1, 0b0010);
+    }
+
+    private static void wearerAsHeIsNow() {
+        KidGloves x = Check.shop("k6,k7,o7;818");
+        x.wish(0, 8, 1);
+        x.wish(1, 1, 0);
+        x.wish(2, 8, 1);
+        x.wear(0, 0, 0);
+        x.wear(1, 1, 0);
+        x.wear(2, 2, 1);
+        Check.row("wearer(0, ..), 14", what -> x.wearer(0, what), 8, 14, 0, NONE, 2, 1, 0, 1, 0);
+        Check.row("wearer(1, ..), 8", what -> x.wearer(1, what), 1, 8, 1, NONE, 0, 0, 1, 0, 0b010);
+        Check.row("wearer(2, ..), 15", what -> x.wearer(2, what), 8, 15, NONE, 2, 1, 1, 1, 1, 0);
+        Check.due("count(6)", x.count(6), 2);
+        x.hour();
+        Check.row("wearer(0, ..), 15", what -> x.wearer(0, what), 8, 15, 0, NONE, 1, 1, 1, 1, 0);
+        Check.row("wearer(1, ..), 9", what -> x.wearer(1, what), 1, 9, 1, NONE, 2, 0, 0, 1, 0);
+        Check.row("wearer(2, ..), 14", what -> x.wearer(2, what), 8, 14, NONE, 2, 2, 1, 0, 1, 0);
+        Check.due("count(6)", x.count(6), 1);
     }
 
     private static void changesAre(KidGloves x, int wearer, int howFew, int bits) {

@@ -9,6 +9,7 @@ public final class WouldBeTest {
         dressTwentyTimes();
         dress();
         dressAsTheyAreNow();
+        dressOfTheNextShop();
         boxesRefusals();
         boxes();
         oddsRefusals();
@@ -124,6 +125,21 @@ public final class WouldBeTest {
         x.book(1, 0);
         Check.row("dress(10 ..), only it left", glove -> x.dress(10 + glove), 0, NONE, NONE);
         Check.row("who has them is as it was", glove -> x.glove(glove, 4), 1, 1, NONE);
+    }
+
+    private static void dressOfTheNextShop() {
+        KidGloves x = Check.shop("g9,g9,g9,g9,g9,g9;666");
+        for (int wearer = 0; wearer < 3; wearer++) {
+            x.wish(wearer, 6, 1);
+        }
+        Check.due("dress(0) of the first", x.dress(0), 3);
+        Check.due("boxes(0) of the first", x.boxes(0), 1);
+        Check.read(x, "g0,g9,g4;6");
+        x.wish(0, 6, 1);
+        Check.row("dress() of the next", x::dress, 1, 1);
+        Check.row("dress(10 ..) of the next", glove -> x.dress(10 + glove), NONE, 0, NONE, NONE, NONE, NONE);
+        Check.due("boxes(0) of the next", x.boxes(0), 3);
+        Check.row("boxes(10 ..) of the next", glove -> x.boxes(10 + glove), 0, 1, 2, NONE, NONE, NONE);
     }
 
     private static void boxesRefusals() {
