@@ -2,15 +2,21 @@
 final class Check {
     private static int wrong = 0;
     private static int asked = 0;
+    private static String sentence = "";
 
     private Check() {
+    }
+
+    /** The document's own words that the answers behind this are due by: they are told with a wrong one. */
+    static void sentence(String words) {
+        sentence = "\"" + words + "\" - ";
     }
 
     static void due(String call, long got, long want) {
         asked++;
         if (got != want) {
             wrong++;
-            System.out.println(call + " answered " + got + ", due is " + want);
+            System.out.println(sentence + call + " answered " + got + ", due is " + want);
         }
     }
 
@@ -50,6 +56,11 @@ final class Check {
         for (int argument : arguments) {
             due(call + " with " + argument, asked.answer(argument), want);
         }
+    }
+
+    /** Numbers below the least that is taken, and above the most, both near and far. */
+    static int[] beside(int least, int most) {
+        return new int[] {least - 1, least - 2, Integer.MIN_VALUE, most + 1, most + 2, Integer.MAX_VALUE};
     }
 
     /** Asks a call for 0, 1, 2.. : the answers are to be these. */
