@@ -12,6 +12,7 @@ public final class ShopEdgesTest {
         shopIsNone();
         shopOfEachLength();
         shopIsAnother();
+        smallerShopIsAnother();
         Check.end("ShopEdgesTest");
     }
 
@@ -168,5 +169,26 @@ public final class ShopEdgesTest {
                 Check.due("glove(" + glove + ", " + what + ")", x.glove(glove, what), y.glove(glove, what));
             }
         }
+    }
+
+    // What the larger one had at numbers that the smaller one has not is to be in none of its answers.
+    private static void smallerShopIsAnother() {
+        KidGloves x = Check.shop("g0,g0,g9,g9,g9,g9;888");
+        Check.due("dress(0) of three WEARERS", x.dress(0), 3);
+        Check.due("boxes(0) of six GLOVES", x.boxes(0), 2);
+        Check.due("count(7) of six GLOVES", x.count(7), 8);
+        for (int wearers = 2; wearers >= 1; wearers--) {
+            Check.read(x, "g0,g0;" + "888".substring(0, wearers));
+            Check.due("dress(0) of the next", x.dress(0), wearers);
+            Check.row("dress(10 ..) of the next", glove -> x.dress(10 + glove), -1, -1, -1, -1);
+            Check.due("boxes(0) of the next", x.boxes(0), 1);
+            Check.row("boxes(10 ..) of the next", glove -> x.boxes(10 + glove), 0, 0, -1, -1, -1, -1);
+            Check.row("count(0 to 8) of the next", x::count, 2, wearers, 0, 0, 0, wearers, wearers, 0, 0);
+            Check.row("QUARRELS of the next", glove -> x.glove(glove, 6), 0, 0, KidGloves.UNKNOWN);
+            Check.row("CHANGES of the next", wearer -> x.wearer(wearer, 8), 0);
+        }
+        x.wish(0, 6, 1);
+        Check.row("dress(0, 1), that he BUTTS", x::dress, 0, 0);
+        Check.row("dress(10 ..)", glove -> x.dress(10 + glove), -1, -1, -1);
     }
 }
